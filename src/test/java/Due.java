@@ -1,0 +1,77 @@
+import java.nio.charset.StandardCharsets;
+
+/** What the tests share: answers that are due, and texts put on the tape. */
+final class Due {
+    private static int checks = 0;
+    private static int wrong = 0;
+
+    private Due() { }
+
+    static void is(String call, long want, long got) {
+        checks++;
+        if (got != want) {
+            wrong++;
+            System.out.println(call + " answered " + got + ", due is " + want);
+        }
+    }
+
+    static void holds(String what, boolean so) {
+        is(what, 1, so ? 1 : 0);
+    }
+
+    /** Ends the test's program: with exit code 1 if an answer was wrong. */
+    static void finish() {
+        System.out.println(checks + " answers, " + wrong + " wrong");
+        if (wrong != 0 || checks == 0) {
+            System.exit(1);
+        }
+    }
+
+    static int word(byte[] bytes, int from) {
+        int word = 0;
+        for (int i = from; i < from + 4; i++) {
+            word = word << 8 | (i < bytes.length ? bytes[i] & 255 : 0);
+        }
+        return word;
+    }
+
+    /** The tape is this text then. */
+    static void tape(HandFast h, String text) {
+        byte[] bytes = text.getBytes(StandardCharsets.ISO_8859_1);
+        h.end(0);
+        for (int at = 0; at < bytes.length; at += 20) {
+            h.feed(word(bytes, at), word(bytes, at + 4), word(bytes, at + 8), word(bytes, at + 12), word(bytes, at + 16));
+        }
+        if (h.end(bytes.length) != bytes.length) {
+            throw new IllegalStateException("the tape can't hold: " + text);
+        }
+    }
+
+    static int isle(HandFast h, String text) {
+        tape(h, text);
+        return h.isle();
+    }
+
+    static int rule(HandFast h, String text) {
+        tape(h, text);
+        return h.rule();
+    }
+
+    /** A new object with an isle. */
+    static HandFast of(String text) {
+        HandFast h = new HandFast();
+        if (isle(h, text) < 0) {
+            throw new IllegalStateException("a fault in: " + text);
+        }
+        return h;
+    }
+
+    /** The answer for a fault. */
+    static int fault(int place, int kind) {
+        return -2 - (1 + 8 * place + kind);
+    }
+
+    static String repeat(String piece, int times) {
+        return piece.repeat(times);
+    }
+}
