@@ -669,8 +669,10 @@ public final class HandFast {
         static final int OR = 13;
         static final int NOT = 14;
 
-        // every step stands for at least one byte of its own in the text
-        final int[] steps = new int[TAPE_MOST];
+        // 60 values and facts, fewer signs and words between them, and nots, of three bytes each: below 220
+        static final int STEPS_MOST = 256;
+
+        final int[] steps = new int[STEPS_MOST];
         final int[] sumStart = new int[CLAUSES_MOST];
         final int[] testStart = new int[CLAUSES_MOST];
         final int[] testEnd = new int[CLAUSES_MOST];
@@ -683,7 +685,7 @@ public final class HandFast {
         }
 
         void emit(int kind, int value) {
-            if (size < steps.length) {
+            if (size < STEPS_MOST) {
                 steps[size] = kind | value << KIND_BITS;
                 size++;
             }
@@ -707,7 +709,7 @@ public final class HandFast {
         static final int VALUES_MOST = 60;
 
         private final Tape tape;
-        private Rule rule = null;
+        private Rule rule = new Rule();
         private int values = 0;
 
         RuleReader(Tape tape) {

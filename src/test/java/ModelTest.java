@@ -63,7 +63,7 @@ public final class ModelTest {
     }
 
     private String isleText() {
-        int likeMost = pick("4", "9", "20").length() == 1 ? 5 + below(5) : 21;
+        int likeMost = below(3) == 0 ? 21 : 3 + below(7);
         StringBuilder s = new StringBuilder("isle " + below(100) + " " + below(likeMost));
         int easts = below(8) == 0 ? below(5) : 2 + below(3);
         int wests = below(8) == 0 ? below(5) : 2 + below(3);
@@ -71,7 +71,7 @@ public final class ModelTest {
         for (int i = 0; i < easts; i++) s.append(";east ").append(below(purse));
         for (int i = 0; i < wests; i++) s.append(";west ").append(below(purse));
         if (easts > 0 && wests > 0) {
-            int pairs = 4 + below(16);
+            int pairs = 4 + below(20);
             for (int i = 0; i < pairs; i++) {
                 s.append(pick(";seems ", ";seems ", ";truly ")).append(below(easts)).append(' ').append(below(wests))
                     .append(' ').append(below(likeMost)).append(' ').append(below(likeMost));
