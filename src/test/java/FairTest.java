@@ -95,6 +95,16 @@ public final class FairTest {
         h.force(0);
         Due.is("nobody is left to ask", 0, h.fair());
         Due.is("both pairs part", 0, h.count(7));
+        HandFast uneven = Due.of("isle 0 0;east 0;west 0;west 0;west 0;seems 0 0 9 9;seems 0 2 4 4");
+        uneven.fair();
+        Due.rule(uneven, "stay 1 if side = 1;stay best - 3");
+        Due.rule(uneven, "stay 1 if side = 1;stay best - 4");
+        uneven.force(0);
+        uneven.fair();
+        Due.is("best is 4, of WEST 2", 0, uneven.east(0, 1));
+        uneven.force(1);
+        uneven.fair();
+        Due.is("and no more", 2, uneven.east(0, 1));
         HandFast back = Due.of("isle 9 0;east 9;east 9;west 0;west 0;seems 0 0 5 5;seems 1 1 5 5;seems 0 1 3 0");
         back.fair();
         Due.rule(back, "stay 0 if person = 1;stay 3 - best");

@@ -89,6 +89,14 @@ public final class IsleTextTest {
         Due.is("PURSE", 5, h.east(0, 0));
         Due.is("LIKES", 8, h.likes(0, 0, 1));
         bad("is le 0 0", 0, 0);
+        String full = "isle 0 0;east 7" + Due.repeat(" ", 385);
+        good(full, 1);
+        bad(full.substring(0, 399) + ";", 400, 0);
+        bad(full.substring(0, 399) + "x", 399, 0);
+        bad(Due.repeat(" ", 400), 400, 0);
+        bad("isle 0 0;late" + Due.repeat(" ", 386) + "x", 399, 0);
+        good("isle 0 0;late" + Due.repeat(" ", 386) + "9", 0);
+        bad(Due.repeat(" ", 397) + "isl", 397, 0);
     }
 
     private static void meanings() {

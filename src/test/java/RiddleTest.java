@@ -118,6 +118,9 @@ public final class RiddleTest {
         lookBehind(h, 1, 0, 3);
         lookBehind(h, 2, 0, 1);
         lookBehind(h, 4, 0, 3);
+        // by none EAST 0 is joined behind even fairs from the 4th on, by 1 they have WEST 1 then
+        lookBehind(h, 30, 0, 3);
+        lookBehind(h, 29, 0, 1);
         h.note(2, 1, 0);
         lookBehind(h, 2, 0, 1);
         h.note(3, 0, 1);

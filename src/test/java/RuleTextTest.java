@@ -20,6 +20,10 @@ public final class RuleTextTest {
         bad("stay  ", 6, 0);
         bad("stays 1", 0, 0);
         bad("stay x", 5, 0);
+        bad("stayz 1", 0, 0);
+        bad("staya 1", 0, 0);
+        bad("stay giftz", 5, 0);
+        bad(Due.repeat(" ", 396) + "stay", 400, 0);
         bad("stay 1;", 7, 0);
         bad("stay 1 if", 9, 0);
         bad("stay 1 iff 1=1", 7, 0);
@@ -198,6 +202,8 @@ public final class RuleTextTest {
         leave("stay 1 if not [1 = 2 or 1 = 1]");
         stay("stay 1 if not not 1 = 1");
         stay("stay1if1=1and2=2");
+        stay("stay 1 if 2<=2 and 3>=3 and 2<3 and 3>2 and 3=3");
+        leave("stay 1 if 2<=1 or 3>=4 or 2<2 or 3>3 or 3=4");
         leave("stay 1 if side = 0");
         leave("stay 1 if side = 1");
         leave("stay side");
