@@ -74,10 +74,10 @@ public final class HandFast {
 
     public int isle() {
         int fault = isleReader.readInto(draft);
+        tape.length = 0;
         if (fault != 0) {
             return -2 - fault;
         }
-        tape.length = 0;
         world.begin.copyFrom(draft);
         world.now.copyFrom(draft);
         world.notes = 0;
@@ -90,10 +90,10 @@ public final class HandFast {
             return NONE;
         }
         int fault = ruleReader.readInto(rules[ruleCount]);
+        tape.length = 0;
         if (fault != 0) {
             return -2 - fault;
         }
-        tape.length = 0;
         ruleCount++;
         return ruleCount - 1;
     }

@@ -9,7 +9,7 @@ public final class IsleTextTest {
     private static void bad(String text, int place, int kind) {
         HandFast h = new HandFast();
         Due.is("isle: " + text, Due.fault(place, kind), Due.isle(h, text));
-        Due.is("the tape stays with: " + text, text.length(), h.count(14));
+        Due.is("the tape is empty behind: " + text, 0, h.count(14));
         Due.is("no isle by: " + text, -1, h.fair());
     }
 
@@ -136,6 +136,11 @@ public final class IsleTextTest {
         Due.is("all stays: NOTES", 1, h.count(11));
         Due.is("all stays: ACTS", 1, h.count(12));
         Due.is("all stays: JOINED", 1, h.count(7));
+        Due.is("all stays: GIFT", 10, h.count(0));
+        Due.is("all stays: EASTS", 2, h.count(2));
+        Due.is("all stays: the RULE IN FORCE", 0, h.count(5));
+        Due.is("all stays: x", 77, h.count(13));
+        Due.is("the TAPE alone is empty", 0, h.count(14));
         Due.is("a new isle", 1, Due.isle(h, "isle 0 0;east 1"));
         Due.is("YEAR", 0, h.count(6));
         Due.is("NOTES", 0, h.count(11));

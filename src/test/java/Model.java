@@ -497,12 +497,13 @@ public final class Model {
     }
 
     public int isle() {
+        String text = tape;
+        tape = "";
         try {
-            begin = parseIsle(tape);
+            begin = parseIsle(text);
         } catch (Fault f) {
             return -2 - f.number;
         }
-        tape = "";
         now = begin.copy();
         notes = new ArrayList<>();
         past = new ArrayList<>();
@@ -511,12 +512,13 @@ public final class Model {
 
     public int rule() {
         if (rules.size() == 6) return -1;
+        String text = tape;
+        tape = "";
         try {
-            rules.add(new RuleParser(tape).rule());
+            rules.add(new RuleParser(text).rule());
         } catch (Fault f) {
             return -2 - f.number;
         }
-        tape = "";
         return rules.size() - 1;
     }
 

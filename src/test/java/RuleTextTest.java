@@ -10,7 +10,7 @@ public final class RuleTextTest {
     private static void bad(String text, int place, int kind) {
         HandFast h = new HandFast();
         Due.is("rule: " + text, Due.fault(place, kind), Due.rule(h, text));
-        Due.is("the tape stays with: " + text, text.length(), h.count(14));
+        Due.is("the tape is empty behind: " + text, 0, h.count(14));
         Due.is("no rule by: " + text, 0, h.count(4));
     }
 

@@ -40,18 +40,41 @@ public final class TapeTest {
         HandFast h = new HandFast();
         h.feed(0xff000000, 0, 0, 0, 0);
         Due.is("a byte 255 is no end", Due.fault(0, 0), h.isle());
-        h.end(0);
+        Due.is("the tape is empty behind the fault", 0, h.count(14));
         Due.tape(h, "isle 0 0");
         h.end(8);
         h.feed(0xffffffff, 0, 0, 0, 0);
         Due.is("nor behind a text", Due.fault(8, 0), h.isle());
-        Due.is("the tape stays", 28, h.count(14));
+        Due.is("the tape is empty behind this one, too", 0, h.count(14));
+    }
+
+    /** The TAPE of a text is empty behind it, with a FAULT, too; with 6 RULES alone it stays. */
+    private static void behindTexts() {
+        HandFast h = new HandFast();
+        h.feed(0x69736c65, 0x20312032, 0, 0, 0);
+        Due.is("isle with a fault", Due.fault(8, 0), h.isle());
+        Due.is("feed behind it", 20, h.feed(0x73746179, 0x20310000, 0, 0, 0));
+        Due.is("rule with a fault", Due.fault(6, 0), h.rule());
+        Due.is("feed behind it", 20, h.feed(0x73746179, 0x20310000, 0, 0, 0));
+        Due.is("end(6)", 6, h.end(6));
+        Due.is("rule", 0, h.rule());
+        Due.is("an empty tape is no rule", Due.fault(0, 0), h.rule());
+        Due.is("nor an isle", Due.fault(0, 0), h.isle());
+        for (int i = 1; i < 6; i++) {
+            Due.is("rule " + i, i, Due.rule(h, "stay 1"));
+        }
+        Due.is("feed", 20, h.feed(0, 0, 0, 0, 0));
+        Due.is("rule with 6", -1, h.rule());
+        Due.is("the tape stays", 40, h.feed(0, 0, 0, 0, 0));
+        Due.is("isle with a fault", Due.fault(0, 0), h.isle());
+        Due.is("the tape is empty", 20, h.feed(0, 0, 0, 0, 0));
     }
 
     public static void main(String[] args) {
         lengths();
         order();
         highBytes();
+        behindTexts();
         Due.finish();
     }
 }
