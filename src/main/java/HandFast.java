@@ -1502,19 +1502,19 @@ public final class HandFast {
             }
         }
 
-        /** The most fairs that a note stands behind, 0 without notes. */
-        int lastNotedFair() {
-            int last = 0;
+        /** How many fairs are held till the last note stands: fairs are numbered from 0. */
+        int fairsToNotes() {
+            int fairs = 0;
             for (int i = 0; i < notes; i++) {
-                last = Math.max(last, noteFair[i]);
+                fairs = Math.max(fairs, noteFair[i] + 1);
             }
-            return last;
+            return fairs;
         }
 
-        /** Whether a state behind some fairs is as the notes tell of it. */
-        boolean notesAreSo(State state, int fairs) {
+        /** Whether a state is as the notes tell that it was behind a fair. */
+        boolean notesAreSo(State state, int fairNumber) {
             for (int i = 0; i < notes; i++) {
-                if (noteFair[i] == fairs && state.partnerOf(EAST, noteEast[i]) != noteWest[i]) {
+                if (noteFair[i] == fairNumber && state.partnerOf(EAST, noteEast[i]) != noteWest[i]) {
                     return false;
                 }
             }
@@ -1548,20 +1548,20 @@ public final class HandFast {
         }
 
         private boolean fitsFromHere(World world, Rule rule) {
-            int last = world.lastNotedFair();
-            for (int fairs = 0; fairs < last; fairs++) {
-                if (!world.notesAreSo(sim, fairs)) {
+            int fairs = world.fairsToNotes();
+            for (int i = 0; i < fairs; i++) {
+                fair.pass(sim, rule, sim.isLate());
+                if (!world.notesAreSo(sim, i)) {
                     return false;
                 }
-                fair.pass(sim, rule, sim.isLate());
             }
-            return world.notesAreSo(sim, last);
+            return true;
         }
 
         /** Leaves how many sets fit, the least and what is in all in sets, leastSet and inAll. */
         void searchBoats(World world, Rule rule) {
             // boats behind the last note change nothing, so that sets that differ there fit alike
-            int years = Math.min(SET_YEARS, world.lastNotedFair());
+            int years = Math.min(SET_YEARS, world.fairsToNotes());
             int fitting = 0;
             leastSet = -2;
             inAll = SET_MASK;
@@ -1582,14 +1582,14 @@ public final class HandFast {
             candidates = 0;
         }
 
-        /** Adds whom easts have behind some fairs by a rule, if the notes are so by it. */
-        void addToLook(World world, Rule rule, int fairs) {
+        /** Adds whom easts have behind a fair by a rule, if the notes are so by it. */
+        void addToLook(World world, Rule rule, int fairNumber) {
             sim.copyFrom(world.begin);
             if (candidates >= CANDIDATES_MOST || !fitsFromHere(world, rule)) {
                 return;
             }
             sim.copyFrom(world.begin);
-            for (int i = 0; i < fairs; i++) {
+            for (int i = 0; i <= fairNumber; i++) {
                 fair.pass(sim, rule, sim.isLate());
             }
             for (int east = 0; east < SIDE; east++) {

@@ -13,8 +13,8 @@ public final class ImageTest {
         h.fair();
         h.force(0);
         h.seed(12);
+        h.note(0, 0, 2);
         h.note(1, 0, 2);
-        h.note(2, 0, 2);
         h.hold();
         Due.tape(h, "stay 2");
         int[] first = {10, 5, 2, 3, 1, 0, 1, 3, 6, 1, 2, 2, 1, 12, 6};

@@ -720,14 +720,14 @@ public final class Model {
         return notes.size();
     }
 
-    /** Whom the easts have behind each of 31 numbers of fairs. */
+    /** Whom the easts have behind each of the fairs 0 to 30. */
     private List<Map<Integer, Integer>> story(int rule, TreeSet<Integer> late) {
         Isle then = begin.copy();
         then.late = late;
         List<Map<Integer, Integer>> rows = new ArrayList<>();
         for (int i = 0; i <= 30; i++) {
-            rows.add(new TreeMap<>(then.joined));
             then.fairBy(ruleOf(rule), false);
+            rows.add(new TreeMap<>(then.joined));
         }
         return rows;
     }
@@ -739,7 +739,7 @@ public final class Model {
         return true;
     }
 
-    /** Whom an east had behind n fairs by a rule, for notes that are so. */
+    /** Whom an east had behind fair n by a rule, for notes that are so. */
     int wasJoined(int rule, int n, int e) {
         return n < 0 || n > 30 ? -1 : story(rule, begin.late).get(n).getOrDefault(e, -1);
     }

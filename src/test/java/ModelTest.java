@@ -160,7 +160,7 @@ public final class ModelTest {
             case 28: case 29: return noteSomething();
             case 30: return call("ruled", odd(below(2)));
             case 31: return call("boats", odd(below(3) - 1), odd(below(3)));
-            case 32: return call("look", odd(fairs), odd(below(2)));
+            case 32: return call("look", odd(below(4) == 0 ? 30 - below(4) : below(8)), odd(below(2)));
             case 33: return call("seed", odd(random.nextInt() & Integer.MAX_VALUE));
             case 34: return call("isles", odd(1 + below(10)), odd(fairs), odd(below(101)), odd(below(2)));
             case 35: return call("count", odd(below(15)));
@@ -192,7 +192,7 @@ public final class ModelTest {
             good &= call("doors", i, 0) & call("doors", i, 1) & call("ahead", i, 3, 0) & call("ahead", i, 3, 1);
         }
         for (int what = 0; what < 6; what++) good &= call("settled", what);
-        for (int what = 0; what < 2; what++) good &= call("ruled", what) & call("look", 5, what) & call("liked", what);
+        for (int what = 0; what < 2; what++) good &= call("ruled", what) & call("look", 0, what) & call("look", 4, what) & call("liked", what);
         for (int what = 0; what < 3; what++) good &= call("boats", -1, what);
         return good;
     }

@@ -1,4 +1,4 @@
-/** Promises 22 to 25. Behind fairs 0 to 4 EAST 0 and 1 have, by none: -- 1,0 -,0 -,0 1,0; by 0: -- and 1,0 on; by 1: -- 1,0 0,1 0,1 1,0. */
+/** Promises 22 to 25. Behind fairs 0 to 3 EAST 0 and 1 have, by none: 1,0 -,0 -,0 1,0; by 0: 1,0 on; by 1: 1,0 0,1 0,1 1,0. */
 public final class RiddleTest {
     private static HandFast ruledIsle() {
         HandFast h = Due.of(FairTest.TWO);
@@ -46,17 +46,22 @@ public final class RiddleTest {
         Due.is("ruled(1)", -1, h.ruled(1));
         Due.is("ruled(2)", -3, h.ruled(2));
         Due.is("ruled(-1)", -3, h.ruled(-1));
-        ruledBy(0, 0, -1, 3, -1);
+        // the begin is behind no fair
+        ruledBy(0, 0, -1, 0, -2);
         ruledBy(0, 0, 0, 0, -2);
-        ruledBy(1, 0, 1, 3, -1);
-        ruledBy(2, 0, -1, 1, -1);
-        ruledBy(2, 0, 1, 1, 0);
-        ruledBy(2, 0, 0, 1, 1);
-        ruledBy(2, 1, 0, 2, -1);
-        ruledBy(3, 1, 1, 1, 1);
-        ruledBy(4, 0, 1, 3, -1);
-        h.note(2, 1, 0);
-        h.note(2, 0, 0);
+        ruledBy(0, 0, 1, 3, -1);
+        ruledBy(1, 0, -1, 1, -1);
+        ruledBy(1, 0, 1, 1, 0);
+        ruledBy(1, 0, 0, 1, 1);
+        ruledBy(1, 1, 0, 2, -1);
+        ruledBy(2, 1, 1, 1, 1);
+        ruledBy(3, 0, 1, 3, -1);
+        ruledBy(29, 0, 1, 3, -1);
+        ruledBy(30, 0, -1, 1, -1);
+        ruledBy(30, 0, 1, 1, 0);
+        ruledBy(30, 0, 0, 1, 1);
+        h.note(1, 1, 0);
+        h.note(1, 0, 0);
         Due.is("two notes that can't be", 0, h.ruled(0));
         Due.is("two notes that can't be", -2, h.ruled(1));
     }
@@ -66,15 +71,25 @@ public final class RiddleTest {
         Due.is("all sets", 256, h.boats(0, 0));
         Due.is("the least", 0, h.boats(0, 1));
         Due.is("in all", 0, h.boats(0, 2));
-        h.note(2, 0, -1);
+        h.note(0, 0, 1);
+        Due.is("not year 0", 128, h.boats(0, 0));
+        Due.is("not year 0", 0, h.boats(0, 1));
+        Due.is("not year 0", 0, h.boats(0, 2));
+        h.note(-1, 0, 0);
+        h.note(0, 0, -1);
+        Due.is("year 0", 128, h.boats(0, 0));
+        Due.is("year 0", 1, h.boats(0, 1));
+        Due.is("year 0", 1, h.boats(0, 2));
+        h.note(-1, 0, 0);
+        h.note(1, 0, -1);
         Due.is("years 0 and 1", 64, h.boats(0, 0));
         Due.is("years 0 and 1", 3, h.boats(0, 1));
         Due.is("years 0 and 1", 3, h.boats(0, 2));
-        h.note(3, 0, 1);
+        h.note(2, 0, 1);
         Due.is("and not 2", 32, h.boats(0, 0));
         Due.is("and not 2", 3, h.boats(0, 1));
         Due.is("and not 2", 3, h.boats(0, 2));
-        // by none: behind 2 fairs EAST 0 is free when 0 and 1 are both late or neither is, and joined behind 3 when 2 isn't
+        // by none: behind fair 1 EAST 0 is free when 0 and 1 are both late or neither is, and joined behind 2 when 2 isn't
         Due.is("none", 64, h.boats(-1, 0));
         Due.is("none", 0, h.boats(-1, 1));
         Due.is("none", 0, h.boats(-1, 2));
@@ -90,18 +105,18 @@ public final class RiddleTest {
 
     private static void boatsTold() {
         HandFast h = Due.of("isle 0 0;east 0;west 0;seems 0 0 1 1;late 0;late 7;late 8;late 10");
-        h.note(9, 0, -1);
+        h.note(8, 0, -1);
         Due.is("8 is told, the rest must be", 1, h.boats(-1, 0));
         Due.is("all", 255, h.boats(-1, 1));
         Due.is("all", 255, h.boats(-1, 2));
-        h.note(10, 0, -1);
+        h.note(9, 0, -1);
         Due.is("9 is not told", 0, h.boats(-1, 0));
         h.note(-1, 0, 0);
-        h.note(8, 0, 0);
+        h.note(7, 0, 0);
         Due.is("any but all", 255, h.boats(-1, 0));
         Due.is("any but all", 0, h.boats(-1, 1));
         Due.is("any but all", 0, h.boats(-1, 2));
-        h.note(7, 0, -1);
+        h.note(6, 0, -1);
         Due.is("0 to 6 alone", 1, h.boats(-1, 0));
         Due.is("0 to 6 alone", 127, h.boats(-1, 1));
         Due.is("0 to 6 alone", 127, h.boats(-1, 2));
@@ -115,19 +130,20 @@ public final class RiddleTest {
     private static void look() {
         HandFast h = ruledIsle();
         lookBehind(h, 0, 0, 3);
-        lookBehind(h, 1, 0, 3);
+        lookBehind(h, 1, 0, 1);
         lookBehind(h, 2, 0, 1);
-        lookBehind(h, 4, 0, 3);
-        // by none EAST 0 is joined behind even fairs from the 4th on, by 1 they have WEST 1 then
-        lookBehind(h, 30, 0, 3);
-        lookBehind(h, 29, 0, 1);
-        h.note(2, 1, 0);
-        lookBehind(h, 2, 0, 1);
-        h.note(3, 0, 1);
-        lookBehind(h, 2, 0, 1);
+        lookBehind(h, 3, 0, 3);
+        // by none EAST 0 is joined behind odd fairs from 3 on, by 1 they have WEST 1 then
+        lookBehind(h, 29, 0, 3);
+        lookBehind(h, 30, 0, 1);
+        h.note(1, 1, 0);
+        lookBehind(h, 1, 0, 1);
+        lookBehind(h, 0, 0, 2);
+        h.note(2, 0, 1);
+        lookBehind(h, 0, 0, 1);
         h.note(-1, 0, 0);
         h.note(0, 0, 0);
-        lookBehind(h, 2, -2, -2);
+        lookBehind(h, 1, -2, -2);
         Due.is("look(31, 0)", -1, h.look(31, 0));
         Due.is("look(-1, 0)", -1, h.look(-1, 0));
         Due.is("look(0, 2)", -1, h.look(0, 2));
@@ -138,8 +154,8 @@ public final class RiddleTest {
         HandFast second = Due.of("isle 0 0;east 0;east 0;west 0;west 0;seems 0 0 1 1;seems 1 1 1 1");
         Due.rule(second, "stay 1 - person");
         Due.rule(second, "stay 2 - person");
-        lookBehind(second, 1, 0, 3);
-        lookBehind(second, 2, 1, 2);
+        lookBehind(second, 0, 0, 3);
+        lookBehind(second, 1, 1, 2);
     }
 
     public static void main(String[] args) {
