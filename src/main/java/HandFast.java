@@ -1026,8 +1026,8 @@ public final class HandFast {
             int step = side == EAST ? 1 : SIDE;
             int others = side == EAST ? wests : easts;
             for (int other = 0; other < others; other++) {
-                if (partner[(1 - side) * SIDE + other] < 0) {
-                    best = Math.max(best, likes[start + other * step]);
+                if (partner[(1 - side) * SIDE + other] < 0 && likes[start + other * step] > best) {
+                    best = likes[start + other * step];
                 }
             }
             return best;

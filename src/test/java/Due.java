@@ -1,17 +1,43 @@
 import java.nio.charset.StandardCharsets;
+import java.util.Set;
+import java.util.TreeSet;
 
 /** What the tests share: answers that are due, and texts put on the tape. */
 final class Due {
     private static int checks = 0;
     private static int wrong = 0;
+    private static String sentence = "";
+    private static final Set<Integer> quoted = new TreeSet<>();
 
     private Due() { }
+
+    /** What follows tests this sentence of the document's Terms. */
+    static void terms(String quote) {
+        sentence = "";
+        holds("the Terms say: " + quote, Doc.hasInTerms(quote));
+        sentence = quote;
+    }
+
+    /** What follows tests this sentence of a promise. */
+    static void promise(int number, String quote) {
+        sentence = "";
+        holds("promise " + number + " says: " + quote, Doc.hasInPromise(number, quote));
+        sentence = number + ": " + quote;
+        quoted.add(number);
+    }
+
+    /** Whether sentences of all promises have been tested by this program. */
+    static void allPromises() {
+        for (int number = 1; number <= 30; number++) {
+            holds("a sentence of promise " + number, quoted.contains(number));
+        }
+    }
 
     static void is(String call, long want, long got) {
         checks++;
         if (got != want) {
             wrong++;
-            System.out.println(call + " answered " + got + ", due is " + want);
+            System.out.println(call + " answered " + got + ", due is " + want + (sentence.isEmpty() ? "" : " by \"" + sentence + "\""));
         }
     }
 

@@ -44,6 +44,7 @@ public final class FaceTest {
         for (Constructor<?> c : HandFast.class.getDeclaredConstructors()) {
             Due.holds("constructor", Modifier.isPublic(c.getModifiers()) && c.getParameterCount() == 0);
         }
+        Due.terms("The constants: `NONE = -1`: None.");
         Due.is("NONE", -1, HandFast.NONE);
     }
 

@@ -1,12 +1,12 @@
 /** Promise 4: the text of an isle and its faults. */
 public final class IsleTextTest {
-    private static void good(String text, int easts) {
+    static void good(String text, int easts) {
         HandFast h = new HandFast();
         Due.is("isle: " + text, easts, Due.isle(h, text));
         Due.is("the tape is empty behind: " + text, 0, h.count(14));
     }
 
-    private static void bad(String text, int place, int kind) {
+    static void bad(String text, int place, int kind) {
         HandFast h = new HandFast();
         Due.is("isle: " + text, Due.fault(place, kind), Due.isle(h, text));
         Due.is("the tape is empty behind: " + text, 0, h.count(14));

@@ -1,13 +1,13 @@
 /** Promises 5 and 6: the text of a rule, its faults, and what it means. */
 public final class RuleTextTest {
-    private static void good(String text) {
+    static void good(String text) {
         HandFast h = new HandFast();
         Due.is("rule: " + text, 0, Due.rule(h, text));
         Due.is("the tape is empty behind: " + text, 0, h.count(14));
         Due.is("RULES", 1, h.count(4));
     }
 
-    private static void bad(String text, int place, int kind) {
+    static void bad(String text, int place, int kind) {
         HandFast h = new HandFast();
         Due.is("rule: " + text, Due.fault(place, kind), Due.rule(h, text));
         Due.is("the tape is empty behind: " + text, 0, h.count(14));
@@ -119,7 +119,7 @@ public final class RuleTextTest {
     }
 
     /** Whether a pair of EAST 1 and WEST 2 stay; likes 7, liked 9 of the east, purses 30 and 40. */
-    private static boolean stays(String rule) {
+    static boolean stays(String rule) {
         HandFast h = Due.of("isle 10 0;east 9;east 40;east 8;west 5;west 6;west 30;west 1;seems 1 2 7 9;seems 1 0 5 0;"
             + "seems 1 3 20 1;seems 2 2 0 4;seems 0 3 1 1");
         h.join(0, 3);
@@ -135,11 +135,11 @@ public final class RuleTextTest {
         return h.east(1, 1) == 2;
     }
 
-    private static void stay(String rule) {
+    static void stay(String rule) {
         Due.holds("they stay by: " + rule, stays(rule));
     }
 
-    private static void leave(String rule) {
+    static void leave(String rule) {
         Due.holds("they part by: " + rule, !stays(rule));
     }
 
