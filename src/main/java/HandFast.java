@@ -534,29 +534,23 @@ public final class HandFast {
             while (stop < length && isLetter(byteAt(stop))) {
                 stop++;
             }
-            int at = 0;
-            for (int number = 0; at < table.length(); number++) {
-                int behind = at;
-                while (behind < table.length() && table.charAt(behind) != ' ') {
-                    behind++;
-                }
-                if (behind - at == stop - start && isSame(table, at, behind)) {
+            int number = 0;
+            int at = start;
+            boolean isSame = true;
+            for (int i = 0; i <= table.length(); i++) {
+                if (i < table.length() && table.charAt(i) != ' ') {
+                    isSame = isSame && byteAt(at) == table.charAt(i);
+                    at++;
+                } else if (isSame && at == stop) {
                     place = stop;
                     return number;
+                } else {
+                    number++;
+                    at = start;
+                    isSame = true;
                 }
-                at = behind + 1;
             }
             return NONE;
-        }
-
-        private boolean isSame(String table, int from, int to) {
-            for (int i = from; i < to; i++) {
-                int at = place + i - from;
-                if (at >= length || bytes[at] != table.charAt(i)) {
-                    return false;
-                }
-            }
-            return true;
         }
     }
 

@@ -32,6 +32,23 @@ public final class LanguageTest {
         }
     }
 
+    /** Rule 9: a loop's own counter stands in its condition, against a bound, and goes on in its own lines. */
+    private static void loops(String source) {
+        Matcher m = Pattern.compile("\\bfor \\((?:int|long) (\\w+) = [^;]*;([^;]*);([^{]*)\\{").matcher(source);
+        int counted = 0;
+        for (; m.find(); counted++) {
+            String name = m.group(1);
+            Due.holds("a counter against a bound: " + m.group(), m.group(2).matches("(?s).*\\b" + name + " (<|<=|>|>=) .*"));
+            Due.holds("a counter that goes on: " + m.group(), m.group(3).matches("\\s*" + name + "(\\+\\+|--| [+-]= \\d+)\\)\\s*"));
+        }
+        m = Pattern.compile("\\bwhile \\((\\w+) < \\w+ && [^{]*\\{([^}]*\\{[^}]*\\})?[^}]*?\\b(\\w+)\\+\\+;\\s*\\}").matcher(source);
+        for (; m.find(); counted++) {
+            Due.holds("a counter that goes on: " + m.group(), m.group(1).equals(m.group(3)));
+        }
+        int loops = source.split("\\b(for|while|do) ?[({]", -1).length - 1;
+        Due.is("loops whose end can be seen", loops, counted);
+    }
+
     private static void classes(String source) {
         List<String> names = new ArrayList<>();
         Matcher m = Pattern.compile("\\bclass (\\w+)").matcher(source);
@@ -48,6 +65,7 @@ public final class LanguageTest {
             Due.holds("no " + forbidden, !m.find());
         }
         methods(source);
+        loops(source);
         classes(source);
         Due.holds("signs 1 to 127 alone", source.chars().allMatch(c -> c > 0 && c < 128));
         Due.finish();
